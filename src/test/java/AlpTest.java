@@ -69,6 +69,9 @@ public final class AlpTest {
         heightIs(x, 2, -1, -1, -1);
         x.alp(6);
         heightIs(x, 5, 0, 1, 0);
+        Due.is("alp(1)", x.alp(1), true);
+        heightIs(x, 0, 0, 1, 0);
+        heightIs(x, 1, -1, -1, -1);
     }
 
     private static void heightKeepsItsLimits() {
@@ -174,6 +177,16 @@ public final class AlpTest {
         x.height(1, 399, 400, 1);
         x.day(40, 0);
         heightIs(x, 1, 400, 400, 1);
+        x.height(0, 0, 9, 1);
+        x.day(1, 0);
+        heightIs(x, 0, 1, 9, 1);
+        FlockPass y = new FlockPass();
+        y.alp(6);
+        y.height(5, 0, 100, 2);
+        y.day(15, 0);
+        heightIs(y, 5, 0, 100, 2);
+        y.day(16, 0);
+        heightIs(y, 5, 2, 100, 2);
     }
 
     private static void flockEatsAndHungers() {

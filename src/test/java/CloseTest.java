@@ -9,6 +9,7 @@ public final class CloseTest {
         workIsTold();
         pursePaysForLosses();
         purseWithoutParts();
+        purseOfOnePart();
         purseAtTheEnd();
         theDeadArePaidOnce();
         nextYearBegins();
@@ -168,6 +169,19 @@ public final class CloseTest {
         }
         Due.is("paid to it", x.told(0, 4), 180);
         Due.is("all is the purse's own", x.count(11), 180);
+    }
+
+    private static void purseOfOnePart() {
+        FlockPass x = new FlockPass();
+        x.sheep(0);
+        x.sheep(1);
+        acts(x, new int[][] {{0, 0, 1}, {0, 1, 1}, {1, 1, 2}});
+        x.milking(1);
+        x.milk(0, 1);
+        Due.days(x, 2);
+        x.close(0);
+        Due.is("it pays all", x.told(0, 4), -90);
+        Due.is("nothing lacks", x.count(11), 0);
     }
 
     private static void purseAtTheEnd() {

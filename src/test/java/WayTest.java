@@ -5,6 +5,7 @@ public final class WayTest {
         thenMostGrass();
         thenTheLeastHeights();
         fromDownOnlyHeightZero();
+        sixHeights();
         grassGrowsAhead();
         refusalsKeepTheLatest();
         nothingElseChanges();
@@ -69,6 +70,18 @@ public final class WayTest {
         way(x, 2, 0, 30, 0, 1);
         x.day(0, 300);
         way(x, 2, 0, 30, 0, 1);
+    }
+
+    private static void sixHeights() {
+        int[][] heights = {{0, 1, 0}, {0, 1, 0}, {0, 1, 0}, {0, 1, 0}, {0, 1, 0}, {60000, 60000, 0}};
+        FlockPass x = alp(heights, 80);
+        way(x, 8, 0, 4000, 0, 1, 2, 3, 4, 5, 5, 5);
+        for (int h = 0; h < 6; h++) {
+            x.move(h);
+        }
+        way(x, 8, 40, 0, 5, 5, 5, 5, 5, 5, 5, 5);
+        x.height(5, 0, 1, 0);
+        way(x, 8, 0, 6400, 4, 3, 2, 1, 0, 0, 0, 0);
     }
 
     private static void grassGrowsAhead() {
