@@ -28,6 +28,8 @@ public final class FaceTest {
         namesOfTheFaceAreNotUsedAgain();
         classesInsideAreStatic();
         forbiddenWordsAreNotThere();
+        noCallMakesAnObject();
+        methodsAreShort();
         objectsShareNothing();
         Due.end();
     }
@@ -80,9 +82,17 @@ public final class FaceTest {
         }
     }
 
+    private static String source() throws IOException {
+        return Files.readString(Path.of("src/main/java/FlockPass.java"));
+    }
+
+    /** The source without its comments. */
+    private static String code() throws IOException {
+        return source().replaceAll("/\\*[\\s\\S]*?\\*/", "").replaceAll("//.*", "");
+    }
+
     private static void forbiddenWordsAreNotThere() throws IOException {
-        String source = Files.readString(Path.of("src/main/java/FlockPass.java"));
-        String code = source.replaceAll("/\\*[\\s\\S]*?\\*/", "").replaceAll("//.*", "");
+        String code = code();
         String words = "\\b(throw|throws|try|catch|synchronized|assert|package|Random|Thread|equals|hashCode|toString"
                 + "|nanoTime|currentTimeMillis|protected|\\w+Exact)\\b|->|::";
         Matcher m = Pattern.compile(words).matcher(code);
@@ -93,7 +103,27 @@ public final class FaceTest {
             boolean imports = line.startsWith("import ");
             Due.is("import: " + line, imports && !line.equals("import java.util.Arrays;"), false);
         }
-        Due.is("signs are 1 to 127", source.chars().allMatch(c -> c > 0 && c < 128), true);
+        Due.is("signs are 1 to 127", source().chars().allMatch(c -> c > 0 && c < 128), true);
+    }
+
+    private static void noCallMakesAnObject() throws IOException {
+        for (String line : code().split("\n")) {
+            // Fields are final, so what is made for one is made once, with its object.
+            boolean makes = line.matches(".*(\\bnew |clone\\(|copyOf|\\.of\\(|\"|Integer\\s+\\w).*");
+            Due.is("made by a call: " + line.strip(), makes && !line.matches(" +(private )?final .* = new .*;"), false);
+        }
+    }
+
+    private static void methodsAreShort() throws IOException {
+        // From the head of a method to the brace that stands as far from the edge as the head.
+        String method = "(?m)^( +)(?!if|for|while|switch)(\\w[\\w\\[\\] ]*)\\([^;{]*\\) \\{\\R([\\s\\S]*?)^\\1\\}";
+        Matcher m = Pattern.compile(method).matcher(code());
+        int methods = 0;
+        while (m.find()) {
+            methods++;
+            Due.is(m.group(2) + " has few lines", m.group(3).lines().count() <= 60, true);
+        }
+        Due.is("the face and more was looked at", methods > FACE.size(), true);
     }
 
     private static void objectsShareNothing() {

@@ -6,20 +6,8 @@ import java.util.List;
  * Sentence compares the alp behind each refused call with one that did not hear it.
  */
 public final class RefusalsTest {
-    /** YEAR 1 with ENTRIES of each kind, losses, CHEESES and WORK, CLOSED. */
-    private static final String FIRST_YEAR = """
-        alp(3) | height(0, 50, 90, 2) | height(1, 40, 80, 3) | height(2, 30, 20, 4) | sheep(0..4)
-        act(0, 0..3, 1, 0) | act(2, 3, 2, 0) | act(1, 2, 2, 0) | act(3, 1, 2, 5)
-        milking(1) | milk(0, 1000) | milk(1, 500) | milk(2, 300) | milk(4, 70)
-        move(0) | day(5, 3) | day(6, 30) | move(NONE) | rules 'l7;m300;w20;v55' = 0 | work(3, 9) | close(10)
-        """;
-
-    /** YEAR 2, DAY 2: THE FLOCK is at HEIGHT 1, THE PASS is shut, SHEEP 3 is DEAD since YEAR 1. */
-    private static final String SECOND_YEAR = FIRST_YEAR + """
-        act(0, 0, 1, 0) | act(0, 1, 2, 0) | act(3, 2, 1, 7) | act(1, 0, 3, 0)
-        milking(2) | milk(0..2, 400) | milk(4, 50) | move(0) | move(1) | day(3, 0) | day(2, 40) | way(3, 5)
-        feed 'l1234;m567;w89;v1000'
-        """;
+    private static final String FIRST_YEAR = Alps.FIRST_YEAR;
+    private static final String SECOND_YEAR = Alps.SECOND_YEAR;
 
     public static void main(String[] args) {
         tapeCalls();
@@ -118,21 +106,21 @@ public final class RefusalsTest {
         for (String question : List.of("look(2, 1, 0, 0)", "look(0, 150, 3, 1)", "credit(4, 0)", "credit(1, 1)",
                 "part(4, 0)", "part(0, 11)", "step(0)", "grass(2, 0)", "told(0, 0)", "told(5, 5)",
                 "entry(3, 2)", "rule(3)", "count(7)")) {
-            List<Call> without = Sentence.calls(bare(SECOND_YEAR));
+            List<Call> without = Sentence.calls(Alps.bare(SECOND_YEAR));
             Twins.same(question + " only asks", Twins.joined(without, Sentence.calls(question)), without);
         }
     }
 
     private static void faultsTouchTheTapeAlone() {
-        String unfed = bare(SECOND_YEAR).replace("feed 'l1234;m567;w89;v1000'", "");
+        String unfed = Alps.bare(SECOND_YEAR).replace("feed 'l1234;m567;w89;v1000'", "");
         for (String fault : List.of("rules(0)", "rules(1)", "rules(6)", "rules(7)")) {
-            List<Call> with = Twins.joined(Sentence.calls(bare(SECOND_YEAR)), Sentence.calls(fault));
+            List<Call> with = Twins.joined(Sentence.calls(Alps.bare(SECOND_YEAR)), Sentence.calls(fault));
             Twins.same(fault + " is a FAULT: RULES stay", with, Sentence.calls(unfed));
         }
     }
 
     private static void waysTouchTheStepsAlone() {
-        List<Call> without = Sentence.calls(bare(SECOND_YEAR));
+        List<Call> without = Sentence.calls(Alps.bare(SECOND_YEAR));
         List<Call> with = Twins.joined(without, Sentence.calls("way(8, 40) | way(1, -30) | way(3, 5)"));
         Twins.same("ways only tell steps", with, without);
     }
@@ -144,10 +132,5 @@ public final class RefusalsTest {
             String due = answersFalse ? " = false" : " = NONE";
             Sentence.holds("refused: " + call, made + "\n" + call + due);
         }
-    }
-
-    /** The text without the answers that are due. */
-    private static String bare(String text) {
-        return text.replaceAll(" = \\d+", "");
     }
 }
